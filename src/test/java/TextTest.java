@@ -10,6 +10,7 @@ public final class TextTest {
         noRoom();
         readingAndEmptying();
         wrongReadsLeaveAll();
+        readAgainAndAgain();
         proteinPlaces();
         manyProteins();
         spectrumPlaces();
@@ -137,6 +138,33 @@ public final class TextTest {
         CHECK.due("mass", x.peak(0, -1), 23000000);
         CHECK.due("peak", x.peak(0, 1), 4000000);
         CHECK.due("it is searched still", x.candidates(0), 0);
+    }
+
+    /** Nothing of an earlier text is left in a later one. */
+    private static void readAgainAndAgain() {
+        PeptideSearch x = new PeptideSearch();
+        String whole = Check.repeated("A", 60);
+        String[] peaks = new String[40];
+        java.util.Arrays.fill(peaks, "9");
+        for (int k = 0; k < 4; k++) {
+            Check.proteins(x, k % 2 == 0 ? ">abcdefghijkl\n" + whole + "\n>b\nB\n" : ">a\nB\n");
+            Check.spectra(x, k % 2 == 0 ? Check.spectrum("3", 5, peaks) : Check.spectrum("2", 1, "8"));
+        }
+        CHECK.due("proteins", x.count(0), 1);
+        CHECK.due("letters", x.size(0, 0), 1);
+        CHECK.due("a letter", x.residue(0, false, 0), 1);
+        CHECK.due("a name", x.size(0, 1), 1);
+        CHECK.due("mass", x.peak(0, -1), 1000000);
+        CHECK.due("peak", x.peak(0, 0), 8000000);
+        CHECK.throwing("one peak", Check.INDEX, () -> x.peak(0, 1));
+        Check.proteins(x, ">bc\nCC\n");
+        Check.spectra(x, Check.spectrum("4", 2, "6", "5"));
+        CHECK.due("letters then", x.size(0, 0), 2);
+        CHECK.due("a name then", x.size(0, 1), 2);
+        CHECK.due("its second character", x.name(0, 1), 'c');
+        CHECK.due("mass then", x.peak(0, -1), 6000000);
+        CHECK.due("peak then", x.peak(0, 1), 5000000);
+        CHECK.throwing("two peaks", Check.INDEX, () -> x.peak(0, 2));
     }
 
     private static void proteinPlace(String text, int want) {
