@@ -11,6 +11,7 @@ public final class MatchTest {
         noMassNoCandidates();
         leastMasses();
         scoreEdges();
+        manyPeaks();
         lightIons();
         turnedMatch();
         equalScores();
@@ -163,6 +164,20 @@ public final class MatchTest {
         Check.spectra(x, Check.spectrum("31", 1, "31", "1"));
         CHECK.due("one letter has no ions", x.search(), 0);
         CHECK.due("one letter is a candidate", x.candidates(0), 2);
+    }
+
+    /** All ions are behind all peaks, or behind all but one; peaks of an earlier text do not count. */
+    private static void manyPeaks() {
+        PeptideSearch x = made(">n\nABC\n", "");
+        String[] peaks = new String[40];
+        java.util.Arrays.fill(peaks, "69");
+        CHECK.due("40 peaks at the last ion", score(x, 0, peaks), 1);
+        CHECK.due("no peak", score(x, 0), 0);
+        java.util.Arrays.fill(peaks, "3");
+        CHECK.due("40 peaks before the ions", score(x, 0, peaks), 0);
+        peaks[0] = "69";
+        CHECK.due("39 peaks before the ions", score(x, 0, peaks), 1);
+        CHECK.due("one peak before the ions", score(x, 0, "3"), 0);
     }
 
     /** Of the turned BA with A changed: 21 and -11. */

@@ -165,6 +165,11 @@ public final class TextTest {
         CHECK.due("mass then", x.peak(0, -1), 6000000);
         CHECK.due("peak then", x.peak(0, 1), 5000000);
         CHECK.throwing("two peaks", Check.INDEX, () -> x.peak(0, 2));
+        for (int end = 1; end < SPECTRUM.length(); end++) {
+            Check.spectra(x, SPECTRUM);
+            CHECK.due("part of what was read", Check.spectra(x, SPECTRUM.substring(0, end)), -1);
+            CHECK.due("place in part of it", x.place(), end);
+        }
     }
 
     private static void proteinPlace(String text, int want) {
