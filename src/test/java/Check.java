@@ -17,10 +17,26 @@ final class Check {
 
     private int wrong = 0;
 
+    /** A test of one sentence of the document: the sentence is told behind the answers that break it. */
+    void holds(String sentence, Act test) {
+        int before = wrong;
+        test.run();
+        if (wrong > before) {
+            System.out.println("    so this does not hold: " + sentence);
+        }
+    }
+
     void due(String what, long got, long want) {
         if (got != want) {
             wrong++;
             System.out.println(what + " answered " + got + ", due is " + want);
+        }
+    }
+
+    void same(String what, String got, String want) {
+        if (!got.equals(want)) {
+            wrong++;
+            System.out.println(what + " is\n    " + got + "\ndue is\n    " + want);
         }
     }
 

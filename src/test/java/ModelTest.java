@@ -233,7 +233,7 @@ public final class ModelTest {
             for (int set = 0; set < 1 << proteins.size(); set++) {
                 if (explains(set, p, q) && (fewest == -1 || Integer.bitCount(set) < Integer.bitCount(fewest)
                         || Integer.bitCount(set) == Integer.bitCount(fewest)
-                            && Integer.reverse(set) - Integer.MIN_VALUE > Integer.reverse(fewest) - Integer.MIN_VALUE)) {
+                            && Integer.compareUnsigned(Integer.reverse(set), Integer.reverse(fewest)) > 0)) {
                     fewest = set;
                 }
             }
