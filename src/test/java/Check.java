@@ -20,7 +20,12 @@ final class Check {
     /** A test of one sentence of the document: the sentence is told behind the answers that break it. */
     void holds(String sentence, Act test) {
         int before = wrong;
-        test.run();
+        try {
+            test.run();
+        } catch (RuntimeException e) {
+            wrong++;
+            System.out.println("a call that should not have thrown threw " + e + " below " + e.getStackTrace()[0]);
+        }
         if (wrong > before) {
             System.out.println("    so this does not hold: " + sentence);
         }

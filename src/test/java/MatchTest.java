@@ -12,6 +12,7 @@ public final class MatchTest {
         CHECK.holds("(with changes)", MatchTest::changedIons);
         CHECK.holds("(with changes): ions of less than 0", MatchTest::lightIons);
         CHECK.holds("(with changes): where one of them alone makes a form that is none", MatchTest::goodByBoth);
+        CHECK.holds("at most MOST of them, are CHANGED: one search after another", MatchTest::fewerChanges);
         CHECK.holds("CANDIDATES are forms of peptides, of proteins and turned ones", MatchTest::bothWays);
         CHECK.holds("1000000 * |d| is at most PARTS times the spectrum's mass", MatchTest::massWindow);
         CHECK.holds("1000000 * |d| is at most ...: great masses", MatchTest::greatMasses);
@@ -177,6 +178,21 @@ public final class MatchTest {
         CHECK.due("candidates", x.candidates(0), 4);
         match("both changes", x, 3, 0, 0, 0, 3);
         changes("both changes", x, 2, 0, -1);
+    }
+
+    /** ABC with A changed: 16 36 49 69; with C changed: 11 31 56 76; with both: 16 36 56 76; without: 11 31 49 69. */
+    private static void fewerChanges() {
+        PeptideSearch x = wide(">n\nABC\n", "16", "36", "56", "76", "31");
+        x.change(0, 0, 5000000);
+        x.change(1, 2, 7000000);
+        int[] scores = {1, 3, 4};
+        int[][] want = {{-1, -1, -1}, {-1, -1, 1}, {0, -1, 1}};
+        for (int most : new int[] {2, 1, 0, 2, 0}) {
+            x.limits(0, most);
+            x.search();
+            match("MOST " + most, x, scores[most], 0, 0, 0, 3);
+            changes("MOST " + most, x, want[most]);
+        }
     }
 
     private static void bothWays() {

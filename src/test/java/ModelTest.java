@@ -251,27 +251,34 @@ public final class ModelTest {
         CHECK.end();
     }
 
-    private static void settle(Model m, PeptideSearch x) {
+    private static void choose(Model m) {
         for (int k = 0; k < LETTERS.length(); k++) {
             int letter = LETTERS.charAt(k) - 'A';
             m.mass[letter] = upTo(12) == 0 ? 0 : 1000000 * (1 + upTo(6));
             m.cuts[letter] = upTo(4) == 0 || k == 3 && upTo(4) > 0;
             m.stops[letter] = upTo(6) == 0;
-            x.letter(letter, m.mass[letter], m.cuts[letter], m.stops[letter]);
         }
         for (int c = 0; c < 4; c++) {
             m.changeLetter[c] = upTo(3) == 0 ? -1 : LETTERS.charAt(upTo(4)) - 'A';
             m.changeMore[c] = 1000000 * (upTo(4) == 0 ? upTo(60) - 40 : upTo(7) - 3);
-            x.change(c, m.changeLetter[c], m.changeMore[c]);
         }
         m.missed = upTo(4);
         m.most = upTo(3);
-        x.limits(m.missed, m.most);
         m.parts = upTo(3) == 0 ? 1000000 : upTo(3) == 0 ? 0 : upTo(300000);
         m.near = upTo(2) == 0 ? 0 : upTo(3000001);
-        x.windows((int) m.parts, (int) m.near);
         m.water = 1000000 * upTo(20);
         m.proton = 1000000 * upTo(3);
+    }
+
+    private static void settle(Model m, PeptideSearch x) {
+        for (char c : LETTERS.toCharArray()) {
+            x.letter(c - 'A', m.mass[c - 'A'], m.cuts[c - 'A'], m.stops[c - 'A']);
+        }
+        for (int c = 0; c < 4; c++) {
+            x.change(c, m.changeLetter[c], m.changeMore[c]);
+        }
+        x.limits(m.missed, m.most);
+        x.windows((int) m.parts, (int) m.near);
         x.extras((int) m.water, (int) m.proton);
     }
 
@@ -324,11 +331,13 @@ public final class ModelTest {
         Model m = new Model();
         PeptideSearch x = new PeptideSearch();
         String what = "run " + run + ": ";
-        CHECK.due(what + "proteins", Check.proteins(x, typedProteins(m, run % 10 == 0 ? 60 : 14)), m.proteins.size());
+        String proteins = typedProteins(m, run % 10 == 0 ? 60 : 14);
+        CHECK.due(what + "proteins", Check.proteins(x, proteins), m.proteins.size());
         CHECK.due(what + "spectra", Check.spectra(x, typedSpectra(m)), m.spectra.size());
         for (int round = 0; round < 2; round++) {
+            choose(m);
             settle(m, x);
-            comparePeptides(what, m, x);
+            comparePeptides(what, m, proteins);
             m.seek();
             int matched = 0;
             for (Form form : m.best) {
@@ -345,26 +354,32 @@ public final class ModelTest {
         }
     }
 
-    private static void comparePeptides(String what, Model m, PeptideSearch x) {
+    /** Each question has an object of its own, so that none is used for more than its 512 calls. */
+    private static void comparePeptides(String what, Model m, String proteins) {
         int protein = upTo(m.proteins.size());
         for (boolean turned : new boolean[] {false, true}) {
             String letters = m.lettersOf(protein, turned);
-            for (int i = 0; i < letters.length(); i++) {
-                CHECK.due(what + "residue", x.residue(protein, turned, i), letters.charAt(i) - 'A');
-            }
             List<int[]> peptides = m.peptides(letters);
-            CHECK.due(what + "peptides", x.size(protein, turned ? 3 : 2), peptides.size());
-            for (int i = 0; i < peptides.size(); i++) {
-                List<Form> forms = m.formsOf(protein, turned, peptides.get(i));
-                CHECK.due(what + "begin", x.peptide(protein, turned, i, 0), peptides.get(i)[0]);
-                CHECK.due(what + "letters", x.peptide(protein, turned, i, 1), peptides.get(i)[1]);
-                CHECK.due(what + "forms", x.peptide(protein, turned, i, 2), forms.size());
-                CHECK.due(what + "weight", x.weight(protein, turned, i), forms.isEmpty() ? 0 : plainWeight(m, forms));
+            for (int question = 0; question < 4; question++) {
+                PeptideSearch x = new PeptideSearch();
+                Check.proteins(x, proteins);
+                settle(m, x);
+                CHECK.due(what + "peptides", x.size(protein, turned ? 3 : 2), peptides.size());
+                CHECK.due(what + "residue", x.residue(protein, turned, 0), letters.charAt(0) - 'A');
+                for (int i = 0; i < peptides.size(); i++) {
+                    long got = question == 3 ? x.weight(protein, turned, i) : x.peptide(protein, turned, i, question);
+                    List<Form> forms = m.formsOf(protein, turned, peptides.get(i));
+                    long[] want = {peptides.get(i)[0], peptides.get(i)[1], forms.size(), plainWeight(m, forms)};
+                    CHECK.due(what + "question " + question + " of peptide " + i, got, want[question]);
+                }
             }
         }
     }
 
     private static long plainWeight(Model m, List<Form> forms) {
+        if (forms.isEmpty()) {
+            return 0;
+        }
         return m.water + m.sum(new Form(0, false, 0, forms.get(0).letters(), minus(forms.get(0).letters().length), 0),
             0, forms.get(0).letters().length);
     }

@@ -265,6 +265,19 @@ public final class ProteinTest {
         }
         PeptideSearch y = of("AXKB");
         CHECK.due("forms of another peptide", y.peptide(0, false, 1, 2), 1);
+        unknownBehindKnown();
+    }
+
+    /** With A changed, only AXC would weigh 50, if X weighed nothing. */
+    private static void unknownBehindKnown() {
+        PeptideSearch x = Check.withLetters();
+        Check.proteins(x, ">n\nABC\n>m\nAXC\n");
+        Check.spectra(x, Check.spectrum("51", 1, "61", "81"));
+        x.change(0, 0, 50000000);
+        x.extras(0, 1000000);
+        x.limits(0, 1);
+        CHECK.due("matches", x.search(), 0);
+        CHECK.due("candidates", x.candidates(0), 0);
     }
 
     /** A weighs 28 with water. */

@@ -27,6 +27,7 @@ public final class RateTest {
         CHECK.holds("explain: by as few proteins as can be: none", RateTest::noneNeeded);
         CHECK.holds("(of several sets the one with the least number that is not in the other one)",
             RateTest::leastNumber);
+        CHECK.holds("explain: these: nothing is left of what explained before", RateTest::explainedAgain);
         CHECK.holds("explain: these, protein k being 2^k", RateTest::powers);
         CHECK.holds("explain: these, protein k being 2^k: all twelve", RateTest::allTwelve);
         CHECK.end();
@@ -116,6 +117,9 @@ public final class RateTest {
         rate(z, 0, 1, 3);
         rate(z, 4, 1, 2);
         rate(z, 5, 1, 2);
+        PeptideSearch w = scored(2, 2, 1, 1, 1, 1, 1, -2, -1, -1, -1, -1);
+        rate(w, 0, 1, 2);
+        rate(w, 2, 5, 7);
     }
 
     private static void noCommonDivisor() {
@@ -222,7 +226,9 @@ public final class RateTest {
         CHECK.due("a stop: no peptide", explained("BC", "ABK", "ABKPDKACK").explain(1, 1), 3);
         CHECK.due("part of a peptide", explained("BC", "ABK", "DABKACK").explain(1, 1), 3);
         CHECK.due("a peptide that goes on", explained("BC", "ABK", "ABDKACK").explain(1, 1), 3);
-        CHECK.due("one letter is another", explained("BC", "ABK", "AEKACK").explain(1, 1), 3);
+        CHECK.due("the first letter is another", explained("BC", "ABK", "EBKACK").explain(1, 1), 3);
+        CHECK.due("the second letter is another", explained("BC", "ABK", "AEKACK").explain(1, 1), 3);
+        CHECK.due("the last letter is another", explained("BC", "ABK", "ACKABE").explain(1, 1), 3);
         CHECK.due("the last letters", explained("BC", "ABK", "ACKABK").explain(1, 1), 2);
     }
 
@@ -290,6 +296,18 @@ public final class RateTest {
         CHECK.due("0 and 1, not 0 and 2", explained("BC", "ABK", "ACK", "ACK").explain(1, 1), 1 + 2);
         CHECK.due("0, 1 and 2, not 0, 1 and 5, not 0, 2 and 3",
             explained("BCDE", "ABK", "ACKADK", "ACKAEK", "ADK", "EK", "AEK").explain(1, 1), 1 + 2 + 4);
+    }
+
+    private static void explainedAgain() {
+        PeptideSearch x = explained("BC", "ABKACK", "ABK", "ACK");
+        CHECK.due("the first", x.explain(1, 1), 1);
+        Check.proteins(x, ">n\nEK\n>m\nABK\n>o\nACK\n");
+        CHECK.due("all match again", x.search(), 2);
+        CHECK.due("the others", x.explain(1, 1), 2 + 4);
+        CHECK.due("the others again", x.explain(1, 1), 2 + 4);
+        Check.proteins(x, ">n\nEK\n");
+        CHECK.due("none matches", x.search(), 0);
+        CHECK.due("nothing to explain", x.explain(1, 1), 0);
     }
 
     private static void powers() {

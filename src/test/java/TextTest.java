@@ -266,6 +266,12 @@ public final class TextTest {
         wrong(SPECTRA, HEAD + END + "8\n", HEAD.length() + END.length());
         wrong(SPECTRA, HEAD + END + END, HEAD.length() + END.length());
         wrong(SPECTRA, HEAD + HEAD, HEAD.length());
+        wrong(SPECTRA, "1+\n" + END, 0);
+        wrong(SPECTRA, END, 0);
+        wrong(SPECTRA, "BEGIN IONS\n1+\n" + END, 11);
+        wrong(SPECTRA, "BEGIN IONS\nPEPMASS=1+\n" + END, 20);
+        wrong(SPECTRA, "BEGIN IONS\nPEPMASS=7\n1+\n" + END, 21);
+        wrong(SPECTRA, "BEGIN IONS\nPEPMASS=7\n8\n" + END, 21);
     }
 
     private static void charges() {
@@ -303,6 +309,9 @@ public final class TextTest {
         good(SPECTRA, HEAD + Check.repeated("8\n", 40) + END + HEAD + Check.repeated("8\n", 40) + END, 2);
         wrong(SPECTRA, HEAD + "\n" + END, HEAD.length());
         wrong(SPECTRA, HEAD + "8 9\n" + END, HEAD.length() + 1);
+        wrong(SPECTRA, HEAD + "8" + END, HEAD.length() + 1);
+        wrong(SPECTRA, HEAD + "8." + END, HEAD.length() + 2);
+        wrong(SPECTRA, HEAD + "8.5" + END, HEAD.length() + 3);
     }
 
     /** Every end of a line left out, or a space in its place, or two of them; and none behind the last line. */
