@@ -6,7 +6,6 @@ public final class LargestTest {
     public static void main(String[] args) {
         mostForms();
         mostPeptides();
-        eachProteinItsOwn();
         CHECK.end();
     }
 
@@ -66,26 +65,5 @@ public final class LargestTest {
         int ofProtein = 60 * (1 + 1) + 59 * (1 + 2 + 1) + 58 * (1 + 3 + 3) + 57 * (1 + 4 + 6);
         CHECK.due("candidates", x.candidates(MANY - 1), 2 * MANY * ofProtein);
         CHECK.due("one explains all", x.explain(1, 1), 1);
-    }
-
-    /** Each protein's spectrum has ions of it that no other one has. */
-    private static void eachProteinItsOwn() {
-        PeptideSearch x = new PeptideSearch();
-        StringBuilder proteins = new StringBuilder();
-        StringBuilder spectra = new StringBuilder();
-        for (int k = 0; k < MANY; k++) {
-            x.letter(k, 1000000 * (100 + k * k), false, false);
-            char c = (char) ('A' + k);
-            proteins.append(">p\n").append(c).append(c).append('\n');
-            spectra.append(Check.spectrum(String.valueOf(219 + 2 * k * k), 1, String.valueOf(101 + k * k)));
-        }
-        Check.proteins(x, proteins.toString());
-        Check.spectra(x, spectra.toString());
-        CHECK.due("all match", x.search(), MANY);
-        for (int s = 0; s < MANY; s++) {
-            CHECK.due("candidates of " + s, x.candidates(s), 2);
-            CHECK.due("protein of " + s, x.match(s, 1), s);
-        }
-        CHECK.due("all are needed", x.explain(0, 1), (1 << MANY) - 1);
     }
 }

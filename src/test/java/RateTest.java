@@ -333,6 +333,10 @@ public final class RateTest {
         Check.proteins(x, proteins.toString());
         Check.spectra(x, spectra.toString());
         CHECK.due("all match", x.search(), 12);
+        for (int s = 0; s < 12; s++) {
+            CHECK.due("candidates of " + s, x.candidates(s), 2);
+            CHECK.due("protein of " + s, x.match(s, 1), s);
+        }
         CHECK.due("all are needed", x.explain(0, 1), 4095);
     }
 }
