@@ -282,6 +282,7 @@ public final class RefusedTest {
 
     private static void firstIsState() {
         PeptideSearch x = State.made();
+        String before = State.of(x);
         for (int k : new int[] {-1, State.SPECTRA}) {
             CHECK.throwing("candidates: state and spectrum", Check.STATE, () -> x.candidates(k));
             CHECK.throwing("match: state and spectrum", Check.STATE, () -> x.match(k, 0));
@@ -296,6 +297,7 @@ public final class RefusedTest {
         CHECK.throwing("match: state of one without a match", Check.STATE, () -> x.match(2, 0));
         CHECK.throwing("changed: state of one without a match", Check.STATE, () -> x.changed(2, 0));
         CHECK.throwing("rate: state of one without a match", Check.STATE, () -> x.rate(2, 0));
+        CHECK.same("all behind them", State.of(x), before);
     }
 
     private static void firstOfSpectra() {
@@ -318,10 +320,12 @@ public final class RefusedTest {
 
     private static void firstOfExplain() {
         PeptideSearch x = State.made();
+        String before = State.of(x);
         CHECK.throwing("p and state", Check.ARGUMENT, () -> x.explain(-1, 1));
         CHECK.throwing("p and state", Check.ARGUMENT, () -> x.explain(1001, 1));
         CHECK.throwing("q and state", Check.ARGUMENT, () -> x.explain(0, 0));
         CHECK.throwing("q and state", Check.ARGUMENT, () -> x.explain(0, 1001));
         CHECK.throwing("state alone", Check.STATE, () -> x.explain(1000, 1000));
+        CHECK.same("all behind them", State.of(x), before);
     }
 }
