@@ -50,8 +50,9 @@ public final class FaceTest {
             System.out.println("due is " + due);
         }
         CHECK.due("the methods are the document's", face.equals(due) ? 1 : 0, 1);
-        noNameTwice(faceNames);
+        noNameTwice(PeptideSearch.class, faceNames);
         fieldsAndConstructors();
+        classesInside(faceNames);
         CHECK.end();
     }
 
@@ -67,11 +68,20 @@ public final class FaceTest {
         return text.toString();
     }
 
-    private static void noNameTwice(Set<String> faceNames) {
-        for (Method method : PeptideSearch.class.getDeclaredMethods()) {
+    private static void noNameTwice(Class<?> holder, Set<String> faceNames) {
+        for (Method method : holder.getDeclaredMethods()) {
             if (Modifier.isPrivate(method.getModifiers())) {
                 CHECK.due(method.getName() + " is a name of the face", faceNames.contains(method.getName()) ? 1 : 0, 0);
             }
+        }
+    }
+
+    private static void classesInside(Set<String> faceNames) {
+        for (Class<?> inside : PeptideSearch.class.getDeclaredClasses()) {
+            String name = inside.getSimpleName();
+            CHECK.due(name + " is private", Modifier.isPrivate(inside.getModifiers()) ? 1 : 0, 1);
+            CHECK.due(name + " is static", Modifier.isStatic(inside.getModifiers()) ? 1 : 0, 1);
+            noNameTwice(inside, faceNames);
         }
     }
 
